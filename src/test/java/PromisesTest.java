@@ -150,8 +150,16 @@ public final class PromisesTest {
         x.road(0, 3, 1, 2);
         x.road(3, 1, 1, 3);
         due("least(0, 2)", x.least(0, 2), 14);
+        x.road(0, 2, 1, 9);
+        x.road(3, 2, 1, 9);
+        due("least(0, 2)", x.least(0, 2), 9);
+        due("least(3, 2)", x.least(3, 2), 9);
+        x.road(0, 1, 1, 7);
+        due("least(0, 1) by a longer road", x.least(0, 1), 5);
+        x.road(0, 3, 1, 9);
+        due("least(0, 1) by a longer road", x.least(0, 1), 5);
         x.road(2, 0, 1, 1);
-        due("least(3, 0)", x.least(3, 0), 13);
+        due("least(3, 0)", x.least(3, 0), 10);
         due("least(0, 0)", x.least(0, 0), 0);
     }
 
@@ -475,6 +483,64 @@ public final class PromisesTest {
         due("planned(1)", x.planned(1), 10);
         x.go(2);
         due("plan(0) in hour 200", x.plan(0), NONE);
+        ShadowRoads y = oneRoad(10, 1);
+        y.crowd(0, 45, 1);
+        y.hold(0, 199);
+        goTo(y, 198);
+        due("plan(0): in hour 199 the fewest wait", y.plan(0), 199);
+        due("planned(0)", y.planned(0), 200);
+        due("planned(1)", y.planned(1), 35);
+    }
+
+    /** What was foretold or planned once is not answered again when things have changed. */
+    private static void forecastsAreNew() {
+        part = "promises 15 to 18, things as they are now";
+        ShadowRoads x = new ShadowRoads();
+        x.town(40, 0);
+        x.town(0, 0);
+        x.town(99, 0);
+        x.road(0, 1, 10, 2);
+        x.road(1, 2, 10, 2);
+        x.crowd(0, 10, 2);
+        due("foretold(0)", x.foretold(0), 4);
+        due("planned(0)", x.planned(0), 4);
+        x.road(0, 2, 10, 3);
+        due("foretold(0) with a new road", x.foretold(0), 3);
+        due("planned(0) with a new road", x.planned(0), 3);
+        due("lacks(1)", x.lacks(1), NONE);
+        due("dawn(2)", x.dawn(2), 1);
+        due("foretold(0) behind dawn", x.foretold(0), 2);
+        due("planned(0) behind dawn", x.planned(0), 2);
+        x.hold(0, 2);
+        due("foretold(0) of a held crowd", x.foretold(0), 4);
+        due("lacks(1) of a held crowd", x.lacks(1), 0);
+        x.shut(1, 0, 4);
+        due("foretold(0) of a shut road", x.foretold(0), 6);
+        due("planned(0) of a shut road", x.planned(0), 6);
+        x.crowd(1, 10, 2);
+        due("foretold(0) of one crowd more", x.foretold(0), 7);
+        due("planned(0) of one crowd more", x.planned(0), 7);
+        x.go(1);
+        due("planned(1) behind an hour", x.planned(1), 10 * 3 + 10);
+        due("foretold(1) behind an hour", x.foretold(1), 10 * 5 + 10);
+    }
+
+    /** Cars of one crowd that come to a queue in turn by two hours stand there together. */
+    private static void oneCrowdQueuesInTurn() {
+        part = "terms: AN HOUR, one crowd";
+        ShadowRoads x = new ShadowRoads();
+        for (int t = 0; t < 3; t++) {
+            x.town(0, 0);
+        }
+        x.road(0, 1, 10, 1);
+        x.road(1, 2, 4, 1);
+        x.crowd(0, 25, 2);
+        x.go(3);
+        due("queue(1)", x.queue(1), 12);
+        due("on(1)", x.on(1), 4);
+        x.go(20);
+        due("count(4)", x.count(4), 25);
+        due("told(0, 5)", x.told(0, 5), 8);
     }
 
     private static void counters() {
@@ -497,6 +563,8 @@ public final class PromisesTest {
         due("came(0, 0, 5, 0)", x.came(0, 0, 5, 0), 5003);
         due("came(0, 0, 5, 1)", x.came(0, 0, 5, 1), 5023);
         due("came(0, 5, 5, 1)", x.came(0, 5, 5, 1), 5000);
+        due("came(0, 0, 3, 0)", x.came(0, 0, 3, 0), 3);
+        due("came(0, 3, 4, 0)", x.came(0, 3, 4, 0), 0);
         due("came(0, 3, 3, 1)", x.came(0, 3, 3, 1), 0);
         due("counted(0, 5, NONE)", x.counted(0, 5, NONE), true);
         due("came(0, 0, 5, 1)", x.came(0, 0, 5, 1), 33);
@@ -640,6 +708,8 @@ public final class PromisesTest {
         lacks();
         plan();
         planAtTheEnd();
+        forecastsAreNew();
+        oneCrowdQueuesInTurn();
         counters();
         out();
         told();
