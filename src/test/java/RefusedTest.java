@@ -234,13 +234,18 @@ public final class RefusedTest {
         }
     }
 
-    /** W, CLOUDS and what is SHUT are seen by what comes of them only. */
+    /** W, CLOUDS, what is SHUT, and counters of hours to come are seen by what comes of them only. */
     private static void addWhatFollows(List<Call> all, Scene s) {
         all.add(new Call("dawn", 20));
         for (int c = 0; c < s.crowds; c++) {
             all.add(new Call("told", c, 0));
         }
         all.add(new Call("go", 5));
+        int over = Math.min(200, s.now + 5) - 1;
+        for (int r = 0; r < s.roads; r++) {
+            all.add(new Call("came", r, 0, over, 0));
+            all.add(new Call("came", r, 0, over, 1));
+        }
         addEach(all, "queue", s.roads);
         addEach(all, "count", 7);
         all.add(new Call("town", 5, 5));
