@@ -20,9 +20,10 @@ public final class ShadowRoads {
     private static final int MOST_GO = 50;
     private static final int MOST_PLANNED = 4;
     private static final int FEW_PARTS = 32;
-    // A part is made by a crowd let go, or by a road that lets only some of one go:
-    // 8 + 16 roads * 200 hours of them at most.
+    // A part is made by a crowd let go, or by a road that lets only some of one go: 8 + 16 roads *
+    // 200 hours of them at most, and in one hour not more than there are crowds and roads.
     private static final int MOST_PARTS = 4096;
+    private static final int PARTS_AN_HOUR = MOST_CROWDS + MOST_ROADS;
 
     private final Towns towns;
     private final Net net;
@@ -163,28 +164,40 @@ public final class ShadowRoads {
     public int foretold(int what) {
         switch (what) {
             case 0:
-                return foresight.lastHour();
+                foresight.foresee();
+                return foresight.last;
             case 1:
-                return foresight.carHours();
+                foresight.foresee();
+                return foresight.carHours;
             default:
                 return NONE;
         }
     }
 
     public int lacks(int town) {
-        return towns.has(town) ? foresight.firstLack(town) : NONE;
+        if (!towns.has(town)) {
+            return NONE;
+        }
+        foresight.foresee();
+        return foresight.lackHour[town];
     }
 
     public int plan(int crowd) {
-        return crowds.has(crowd) ? foresight.bestHour(crowd) : NONE;
+        if (!crowds.has(crowd)) {
+            return NONE;
+        }
+        foresight.makePlan();
+        return foresight.bestHour(crowd);
     }
 
     public int planned(int what) {
         switch (what) {
             case 0:
-                return foresight.bestLastHour();
+                foresight.makePlan();
+                return foresight.hasPlan() ? foresight.bestLast : NONE;
             case 1:
-                return foresight.bestCarHours();
+                foresight.makePlan();
+                return foresight.hasPlan() ? foresight.bestWaited : NONE;
             default:
                 return NONE;
         }
@@ -451,13 +464,14 @@ public final class ShadowRoads {
     }
 
     /**
-     * Lines of cars, each first in, first out. Cars of one crowd are all alike, so a line is a
-     * chain of parts (a crowd and how many); all lines share one store of parts.
+     * Lines of cars, each first in, first out: of each road its queue and its drive. Cars of one
+     * crowd are all alike, so a line is a chain of parts (a crowd and how many). All lines share
+     * one store, so that what goes from line to line needs no more room in it.
      */
     private static final class Lines {
-        final int[] first;
-        final int[] last;
-        final int[] sum;
+        final int[] first = new int[2 * MOST_ROADS];
+        final int[] last = new int[2 * MOST_ROADS];
+        final int[] sum = new int[2 * MOST_ROADS];
         int[] crowd = new int[FEW_PARTS];
         int[] cars = new int[FEW_PARTS];
         int[] due = new int[FEW_PARTS];
@@ -466,11 +480,16 @@ public final class ShadowRoads {
         int free = NONE;
 
         Lines() {
-            first = new int[MOST_ROADS];
-            last = new int[MOST_ROADS];
-            sum = new int[MOST_ROADS];
             Arrays.fill(first, NONE);
             Arrays.fill(last, NONE);
+        }
+
+        static int queueOf(int road) {
+            return road;
+        }
+
+        static int driveOf(int road) {
+            return MOST_ROADS + road;
         }
 
         boolean isEmpty(int line) {
@@ -535,13 +554,20 @@ public final class ShadowRoads {
             free = part;
         }
 
+        /** Room for all parts that an hour can make. */
+        void makeRoomForAnHour() {
+            if (used + PARTS_AN_HOUR > crowd.length) {
+                makeRoom(Math.min(2 * crowd.length, MOST_PARTS));
+            }
+        }
+
         void copyFrom(Lines other) {
             if (crowd.length < other.used) {
                 makeRoom(other.crowd.length);
             }
-            System.arraycopy(other.first, 0, first, 0, MOST_ROADS);
-            System.arraycopy(other.last, 0, last, 0, MOST_ROADS);
-            System.arraycopy(other.sum, 0, sum, 0, MOST_ROADS);
+            System.arraycopy(other.first, 0, first, 0, first.length);
+            System.arraycopy(other.last, 0, last, 0, last.length);
+            System.arraycopy(other.sum, 0, sum, 0, sum.length);
             System.arraycopy(other.crowd, 0, crowd, 0, other.used);
             System.arraycopy(other.cars, 0, cars, 0, other.used);
             System.arraycopy(other.due, 0, due, 0, other.used);
@@ -556,13 +582,7 @@ public final class ShadowRoads {
                 free = next[part];
                 return part;
             }
-            if (used >= MOST_PARTS) {
-                return NONE;
-            }
-            if (used >= crowd.length) {
-                makeRoom(Math.min(2 * crowd.length, MOST_PARTS));
-            }
-            return used++;
+            return used < crowd.length ? used++ : NONE;
         }
 
         private void makeRoom(int parts) {
@@ -578,8 +598,7 @@ public final class ShadowRoads {
         final Towns towns;
         final Net net;
         final Crowds crowds;
-        final Lines queues = new Lines();
-        final Lines drives = new Lines();
+        final Lines lines = new Lines();
         final int[] hour = new int[MOST_CROWDS];
         final int[] homeCars = new int[MOST_CROWDS];
         final int[] cameHome = new int[MOST_CROWDS];
@@ -616,23 +635,24 @@ public final class ShadowRoads {
         }
 
         int queued(int road) {
-            return queues.sum[road];
+            return lines.sum[Lines.queueOf(road)];
         }
 
         int driving(int road) {
-            return drives.sum[road];
+            return lines.sum[Lines.driveOf(road)];
         }
 
         int allQueued() {
             int all = 0;
             for (int r = 0; r < net.count; r++) {
-                all += queues.sum[r];
+                all += queued(r);
             }
             return all;
         }
 
         /** The parts (1), (2) and (3) of an hour. */
         void driveAnHour() {
+            lines.makeRoomForAnHour();
             comeToTowns();
             letCrowdsGo();
             setOut();
@@ -648,8 +668,7 @@ public final class ShadowRoads {
         }
 
         void copyFrom(Traffic other) {
-            queues.copyFrom(other.queues);
-            drives.copyFrom(other.drives);
+            lines.copyFrom(other.lines);
             System.arraycopy(other.hour, 0, hour, 0, MOST_CROWDS);
             System.arraycopy(other.homeCars, 0, homeCars, 0, MOST_CROWDS);
             System.arraycopy(other.cameHome, 0, cameHome, 0, MOST_CROWDS);
@@ -664,31 +683,33 @@ public final class ShadowRoads {
 
         private void comeToTowns() {
             for (int r = 0; r < net.count; r++) {
-                for (int i = 0; i < MOST_PARTS && drives.isDue(r, now); i++) {
-                    int who = drives.firstCrowd(r);
-                    int many = drives.firstCars(r);
-                    drives.take(r, many);
-                    comeTo(net.to[r], who, many);
+                int drive = Lines.driveOf(r);
+                int town = net.to[r];
+                for (int i = 0; i < MOST_PARTS && lines.isDue(drive, now); i++) {
+                    int who = lines.firstCrowd(drive);
+                    int many = lines.firstCars(drive);
+                    lines.take(drive, many);
+                    there[town] += many;
+                    if (town == crowds.home[who]) {
+                        comeHome(who, many);
+                    } else {
+                        queueUp(town, who, many);
+                    }
                 }
             }
         }
 
-        private void comeTo(int town, int who, int many) {
-            there[town] += many;
-            if (town == crowds.home[who]) {
-                homeCars[who] += many;
-                cameHome[who] = now;
-                allHome += many;
-                lastHome = now;
-            } else {
-                queueUp(town, who, many);
-            }
+        private void comeHome(int who, int many) {
+            homeCars[who] += many;
+            cameHome[who] = now;
+            allHome += many;
+            lastHome = now;
         }
 
         private void queueUp(int town, int who, int many) {
             int road = net.nextRoad(town, crowds.home[who]);
             if (road != NONE) {
-                queues.append(road, who, many, 0);
+                lines.append(Lines.queueOf(road), who, many, 0);
             }
         }
 
@@ -703,18 +724,19 @@ public final class ShadowRoads {
         // No car comes to a queue behind (2), so each road's wait is known once it has let go.
         private void setOut() {
             for (int r = 0; r < net.count; r++) {
-                gone[r] = queues.isEmpty(r) ? 0 : setOutOn(r, net.lets(r, now));
-                waited += queues.sum[r];
+                gone[r] = setOutOn(r, net.lets(r, now));
+                waited += queued(r);
             }
         }
 
         private int setOutOn(int road, int most) {
+            int queue = Lines.queueOf(road);
             int out = 0;
-            for (int i = 0; i < MOST_PARTS && out < most && !queues.isEmpty(road); i++) {
-                int who = queues.firstCrowd(road);
-                int many = Math.min(queues.firstCars(road), most - out);
-                queues.take(road, many);
-                drives.append(road, who, many, now + net.hours[road]);
+            for (int i = 0; i < MOST_PARTS && out < most && !lines.isEmpty(queue); i++) {
+                int who = lines.firstCrowd(queue);
+                int many = Math.min(lines.firstCars(queue), most - out);
+                lines.take(queue, many);
+                lines.append(Lines.driveOf(road), who, many, now + net.hours[road]);
                 out += many;
             }
             there[net.from[road]] -= out;
@@ -782,23 +804,12 @@ public final class ShadowRoads {
             planMade = false;
         }
 
-        int lastHour() {
-            foresee();
-            return last;
+        boolean hasPlan() {
+            return waitingCount > 0;
         }
 
-        int carHours() {
-            foresee();
-            return carHours;
-        }
-
-        int firstLack(int town) {
-            foresee();
-            return lackHour[town];
-        }
-
+        /** The hour that the plan has for a crowd; NONE, if it isn't one of the plan. */
         int bestHour(int crowd) {
-            makePlan();
             for (int i = 0; i < waitingCount; i++) {
                 if (waiting[i] == crowd) {
                     return truth.now + bestStep[i];
@@ -807,17 +818,7 @@ public final class ShadowRoads {
             return NONE;
         }
 
-        int bestLastHour() {
-            makePlan();
-            return waitingCount == 0 ? NONE : bestLast;
-        }
-
-        int bestCarHours() {
-            makePlan();
-            return waitingCount == 0 ? NONE : bestWaited;
-        }
-
-        private void foresee() {
+        void foresee() {
             if (foreseen) {
                 return;
             }
@@ -834,21 +835,13 @@ public final class ShadowRoads {
             carHours = trial.waited - truth.waited;
         }
 
-        private void noteLacks() {
-            for (int t = 0; t < MOST_TOWNS; t++) {
-                if (lackHour[t] == NONE && trial.there[t] > trial.water[t]) {
-                    lackHour[t] = trial.now;
-                }
-            }
-        }
-
-        private void makePlan() {
+        void makePlan() {
             if (planMade) {
                 return;
             }
             planMade = true;
             findWaiting();
-            if (waitingCount == 0) {
+            if (!hasPlan()) {
                 return;
             }
             bestLast = HOURS;
@@ -858,6 +851,14 @@ public final class ShadowRoads {
             for (int w = 0; w < ways; w++) {
                 if (isWithinHours(w)) {
                     tryWay(w);
+                }
+            }
+        }
+
+        private void noteLacks() {
+            for (int t = 0; t < MOST_TOWNS; t++) {
+                if (lackHour[t] == NONE && trial.there[t] > trial.water[t]) {
+                    lackHour[t] = trial.now;
                 }
             }
         }
