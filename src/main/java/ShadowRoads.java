@@ -724,8 +724,9 @@ public final class ShadowRoads {
         // No car comes to a queue behind (2), so each road's wait is known once it has let go.
         private void setOut() {
             for (int r = 0; r < net.count; r++) {
-                gone[r] = setOutOn(r, net.lets(r, now));
-                waited += queued(r);
+                int queue = Lines.queueOf(r);
+                gone[r] = lines.isEmpty(queue) ? 0 : setOutOn(r, net.lets(r, now));
+                waited += lines.sum[queue];
             }
         }
 
